@@ -8,6 +8,7 @@ public final class HistoryTest {
         promise14Keep();
         promise15Restore();
         promise15SnapshotIsNoState();
+        promise15RestoresAllOfLabelsAndRewrites();
         Due.end();
     }
 
@@ -154,5 +155,44 @@ public final class HistoryTest {
         x.takeDown(0, 1);
         Due.is("changes leave the snapshot", x.restore(), 1);
         Due.is("history is no state", x.count(10), 3);
+    }
+
+    private static void promise15RestoresAllOfLabelsAndRewrites() {
+        VotedLabels x = new VotedLabels();
+        Due.text(x, "a b");
+        x.endWeek();
+        x.rewrite(7, 5, 2);
+        x.vote(1, 0, true);
+        x.vote(2, 0, true);
+        x.endWeek();
+        Due.text(x, "c d e");
+        x.rewrite(6, 5, 2);
+        x.endWeek();
+        x.vote(3, 1, true);
+        x.keep();
+        // the row of the rewrite that is kept is used for others
+        x.vote(4, 1, true);
+        x.endWeek();
+        Due.text(x, "f");
+        x.rewrite(2, 1, 0);
+        x.label(5, 2);
+        x.restore();
+        int[] label = {2, 3, 7, 1, 0};
+        for (int what = 0; what < label.length; what++) {
+            Due.is("labelOf " + what, x.labelOf(5, 2, what), label[what]);
+        }
+        int[] rewrite = {5, 2, 6, 3, 1, 1, 5, 0};
+        for (int what = 0; what < rewrite.length; what++) {
+            Due.is("rewriteOf " + what, x.rewriteOf(1, what), rewrite[what]);
+        }
+        Due.is("rewrites", x.count(1), 1);
+        Due.is("so far", x.count(2), 2);
+        x.undo();
+        Due.is("no visitor's before", x.labelOf(5, 2, 2), VotedLabels.NONE);
+        Due.is("weeks before", x.labelOf(5, 2, 3), 4);
+        Due.is("rewrite before", x.rewriteOf(2, 2), 2);
+        Due.is("work before", x.rewriteOf(2, 0), 1);
+        x.vote(8, 1, true);
+        Due.is("gone before", x.rewriteOf(1, 0), VotedLabels.UNKNOWN);
     }
 }

@@ -12,6 +12,7 @@ public final class RewritesTest {
         promise10EndWeek();
         promise10WhichIsBest();
         promise10Limits();
+        promise10LimitOfItsOwnRoom();
         promise10Ages();
         promise10AlsoIfItIsTheLabel();
         Due.end();
@@ -102,7 +103,9 @@ public final class RewritesTest {
         }
         Due.is("seventeenth", x.rewrite(0, 0, 2), VotedLabels.FULL);
         Due.is("nothing changed", x.count(1), 16);
+        sixteenAreTold(x);
         Due.is("in the place of one", x.rewrite(3, 3, 0), 16);
+        Due.is("in the place of the first", x.rewrite(0, 0, 0), 17);
         Due.is("still sixteen", x.count(1), 16);
         Due.text(x, "b");
         x.label(0, 2);
@@ -111,7 +114,21 @@ public final class RewritesTest {
         x.endWeek();
         Due.is("full until they fall", x.rewrite(0, 0, 1), VotedLabels.FULL);
         x.endWeek();
-        Due.is("room again", x.rewrite(0, 0, 1), 17);
+        Due.is("room again", x.rewrite(0, 0, 1), 18);
+    }
+
+    private static void sixteenAreTold(VotedLabels x) {
+        for (int visitor = 0; visitor < 10; visitor++) {
+            Due.is("rewrites of " + visitor, x.visitor(visitor, 0), visitor < 6 ? 2 : 1);
+            Due.is("votes of " + visitor, x.visitor(visitor, 2), 0);
+        }
+        Due.is("no votes", x.count(3), 0);
+        Due.is("not there", x.rewriteOf(16, 0), VotedLabels.UNKNOWN);
+        Due.is("best of one place", x.rewriteOf(15, 7), 0);
+        Due.is("first of one place", x.ranked(7, 1, 0), 15);
+        Due.is("second of one place", x.ranked(7, 1, 1), VotedLabels.NONE);
+        Due.is("vote for the last", x.vote(0, 15, true), 1);
+        Due.is("taken back", x.vote(0, 15, false), 0);
     }
 
     private static void promise8TwoHundred() {
@@ -282,6 +299,26 @@ public final class RewritesTest {
         Due.is("not too long there", x.endWeek(), 1);
         Due.shows(x, 0, 0, "a b c");
         Due.is("not fallen away", x.count(8), 0);
+    }
+
+    private static void promise10LimitOfItsOwnRoom() {
+        for (int work = 0; work < 8; work++) {
+            for (int tongue = 0; tongue < 3; tongue++) {
+                VotedLabels x = new VotedLabels();
+                x.setNeeded(1);
+                Due.text(x, "a b");
+                x.rewrite(1, work, tongue);
+                x.vote(0, 0, true);
+                for (int room = 0; room < 4; room++) {
+                    x.setLimit(room, room == work % 4 ? 2 : 1);
+                }
+                Due.is("fits work " + work, x.rewriteOf(0, 7), 1);
+                x.setLimit(work % 4, 1);
+                x.setLimit((work + 1) % 4, 15);
+                Due.is("too long for work " + work, x.rewriteOf(0, 7), 0);
+                Due.is("not rewritten", x.endWeek(), 0);
+            }
+        }
     }
 
     private static void promise10Ages() {

@@ -9,8 +9,10 @@ public final class TellingTest {
         promise18WouldBecome();
         promise19Ranked();
         promise20Room();
+        promise20RoomOfEachWork();
         promise21Visitor();
         promise22LabelsWith();
+        promise22ThirtyWords();
         promise23Count();
         Due.end();
     }
@@ -114,10 +116,10 @@ public final class TellingTest {
 
     private static void promise18HowFar() {
         String[] labels = {"a b c d", "a b c", "a a a", "a b", "b a", "ab", "a", "a b c", "x a y b z", "a b a b",
-            "the cat sat on the mat", "a b c d e f g h i j"};
+            "the cat sat on the mat", "a b c d e f g h i j", "b c a c b", "a a b a b b"};
         String[] rewrites = {"a x c", "c b a", "a", "ab", "a b", "a b", "b", "d a b c", "a b", "b a b a",
-            "the mat sat on the cat", "j i h g f e d c b a"};
-        int[] far = {3, 4, 2, 3, 2, 3, 2, 1, 3, 2, 4, 18};
+            "the mat sat on the cat", "j i h g f e d c b a", "c b c a a b", "b a b b a a b"};
+        int[] far = {3, 4, 2, 3, 2, 3, 2, 1, 3, 2, 4, 18, 3, 5};
         for (int i = 0; i < labels.length; i++) {
             VotedLabels x = new VotedLabels();
             Due.text(x, rewrites[i]);
@@ -241,6 +243,24 @@ public final class TellingTest {
         Due.is("longest is left", x.room(1, 6), 2);
     }
 
+    private static void promise20RoomOfEachWork() {
+        for (int work = 0; work < 8; work++) {
+            for (int tongue = 0; tongue < 3; tongue++) {
+                VotedLabels x = new VotedLabels();
+                Due.text(x, "a b c");
+                x.label(work, tongue);
+                for (int room = 0; room < 4; room++) {
+                    boolean holds = room == work % 4;
+                    Due.is("longest", x.room(room, 6), holds ? 3 : 0);
+                    Due.is("asked for", x.room(room, 3), holds && tongue == 0 ? 1 : 0);
+                    Due.is("missing", x.room(room, 4), holds && tongue == 0 ? 1 : 2);
+                    Due.is("other tongues", x.room(room, 5), holds && tongue > 0 ? 1 : 0);
+                }
+                Due.is("missing in all", x.count(6), tongue == 0 ? 7 : 8);
+            }
+        }
+    }
+
     private static void promise21Visitor() {
         VotedLabels x = new VotedLabels();
         Due.is("visitor -1", x.visitor(-1, 0), VotedLabels.UNKNOWN);
@@ -308,6 +328,20 @@ public final class TellingTest {
         x.takeDown(0, 1);
         Due.is("taken down", x.labelsWith(1), 0);
         Due.is("no act", x.count(10), 4);
+    }
+
+    private static void promise22ThirtyWords() {
+        VotedLabels x = new VotedLabels();
+        x.setLimit(0, 15);
+        Due.text(x, "q r s t u v w x y z qq r s t u");
+        Due.is("fifteen", x.label(0, 0), 15);
+        x.label(4, 0);
+        Due.text(x, "a b c d e f g h i j k l m n o p a b c d e f g h i j k l m n");
+        Due.is("none of thirty words", x.labelsWith(0), 0);
+        x.type('q');
+        Due.is("thirty words, the last of two letters", x.labelsWith(0), 0);
+        Due.text(x, "a b c d e f g h i j k l m n o p a b c d e f g h i j k l m qq");
+        Due.is("the thirtieth", x.labelsWith(0), 2);
     }
 
     private static void promise23Count() {
