@@ -44,6 +44,7 @@ public final class ModelTest {
         weights[7] += 10 * draw(4);
         weights[8] /= 2;
         weights[9] = 1 + draw(3);
+        weights[17] += 6;
     }
 
     private static int drawKind() {
@@ -64,7 +65,10 @@ public final class ModelTest {
     private static int near(int end) {
         int outside = draw(60);
         if (outside == 0) {
-            return -1 - draw(3);
+            return draw(4) == 0 ? Integer.MIN_VALUE : -1 - draw(3);
+        }
+        if (outside == 2) {
+            return draw(4) == 0 ? Integer.MAX_VALUE : end;
         }
         return outside == 1 ? end + draw(3) : draw(end);
     }

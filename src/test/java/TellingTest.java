@@ -6,6 +6,7 @@ public final class TellingTest {
         promise17Letter();
         promise18RewriteOf();
         promise18HowFar();
+        promise18HowFarOfAShorterOne();
         promise18WouldBecome();
         promise19Ranked();
         promise20Room();
@@ -142,6 +143,21 @@ public final class TellingTest {
         Due.is("fifteen words", x.rewriteOf(0, 6), 2);
         x.setLimit(0, 3);
         Due.is("from the cut label", x.rewriteOf(0, 6), 14);
+    }
+
+    private static void promise18HowFarOfAShorterOne() {
+        VotedLabels x = new VotedLabels();
+        Due.text(x, "a b");
+        x.label(0, 0);
+        Due.text(x, "a b c");
+        x.rewrite(0, 0, 0);
+        Due.is("one put in", x.rewriteOf(0, 6), 1);
+        Due.text(x, "a");
+        x.rewrite(0, 0, 0);
+        Due.is("words of the earlier do not count", x.rewriteOf(1, 6), 1);
+        x.setLimit(0, 1);
+        Due.is("words that were cut do not count", x.rewriteOf(1, 6), 0);
+        Due.is("words", x.rewriteOf(1, 3), 1);
     }
 
     private static void promise18WouldBecome() {
