@@ -25,6 +25,11 @@ public final class HistoryEdgesTest {
         restoreRecordsEvenIfNothingChanges();
         restoreDropsTheOldestToo();
         theSnapshotIsAllOfTheState();
+        eachRoomIsOfTheState();
+        eachWorkIsOfTheState();
+        eachLabelIsOfTheState();
+        eachVisitorIsOfTheState();
+        eachRewriteIsOfTheState();
         theTextIsNoState();
         theHistoryIsNoState();
         Due.end();
@@ -295,6 +300,107 @@ public final class HistoryEdgesTest {
         }
         x.restore();
         return x;
+    }
+
+    /** Undoes an act, does it again, restores what was kept ahead of it, and undoes that. */
+    private static void isOfTheState(String what, VotedLabels x, ToIntFunction<VotedLabels> act,
+            ToIntFunction<VotedLabels> told) {
+        x.keep();
+        int before = told.applyAsInt(x);
+        act.applyAsInt(x);
+        int behind = told.applyAsInt(x);
+        Due.isTrue(what + " is another by the act", before != behind);
+        x.undo();
+        Due.is(what + ", undone", told.applyAsInt(x), before);
+        act.applyAsInt(x);
+        Due.is(what + ", done again", told.applyAsInt(x), behind);
+        x.restore();
+        Due.is(what + ", restored", told.applyAsInt(x), before);
+        x.undo();
+        Due.is(what + ", the restore undone", told.applyAsInt(x), behind);
+    }
+
+    private static void eachRoomIsOfTheState() {
+        for (int i = 0; i < 4; i++) {
+            int room = i;
+            isOfTheState("the limit of " + room, new VotedLabels(), x -> x.setLimit(room, 7), x -> x.room(room, 0));
+            isOfTheState("the tongue 0 of " + room, new VotedLabels(), x -> x.ask(room, 0, false),
+                    x -> x.room(room, 2));
+            isOfTheState("the tongue 1 of " + room, new VotedLabels(), x -> x.ask(room, 1, true),
+                    x -> x.room(room, 2));
+            isOfTheState("the tongue 2 of " + room, new VotedLabels(), x -> x.ask(room, 2, true),
+                    x -> x.room(room, 2));
+        }
+    }
+
+    private static void eachWorkIsOfTheState() {
+        for (int i = 0; i < 8; i++) {
+            int work = i;
+            for (int away = 1; away < 4; away++) {
+                int room = (work + away) % 4;
+                isOfTheState("the room of " + work, new VotedLabels(), x -> x.bring(work, room),
+                        x -> x.room(room, 1));
+            }
+        }
+    }
+
+    private static void eachLabelIsOfTheState() {
+        for (int i = 0; i < 24; i++) {
+            int work = i / 3;
+            int tongue = i % 3;
+            String at = " of " + work + ", " + tongue;
+            VotedLabels x = new VotedLabels();
+            Due.text(x, "ab c");
+            isOfTheState("the label" + at, x, y -> y.label(work, tongue), y -> y.labelOf(work, tongue, 0));
+            isOfTheState("its cuts" + at, x, y -> y.setLimit(work % 4, 1), y -> y.labelOf(work, tongue, 4));
+            Due.text(x, "az");
+            isOfTheState("its letters" + at, x, y -> y.label(work, tongue), y -> y.letter(work, tongue, 1));
+            isOfTheState("the label taken down" + at, x, y -> y.takeDown(work, tongue),
+                    y -> y.labelOf(work, tongue, 1));
+        }
+    }
+
+    private static void eachVisitorIsOfTheState() {
+        for (int i = 0; i < 10; i++) {
+            int visitor = i;
+            for (int what = 0; what < 4; what++) {
+                int asked = what;
+                VotedLabels x = new VotedLabels();
+                Due.text(x, "a");
+                x.setNeeded(1);
+                x.rewrite((visitor + 2) % 10, 1, 0);
+                x.rewrite(visitor, 0, 0);
+                x.vote((visitor + 1) % 10, 1, true);
+                if (what == 2) {
+                    isOfTheState("the votes of " + visitor, x, y -> y.vote(visitor, 0, true), y -> y.visitor(visitor, 2));
+                } else {
+                    isOfTheState("visitor(" + visitor + ", " + what + ")", x, VotedLabels::endWeek,
+                            y -> y.visitor(visitor, asked));
+                }
+            }
+        }
+    }
+
+    private static void eachRewriteIsOfTheState() {
+        for (int i = 0; i < 16; i++) {
+            int number = i;
+            VotedLabels x = new VotedLabels();
+            Due.text(x, "q");
+            for (int other = 0; other < 16; other++) {
+                x.rewrite(other % 10, other % 8, other / 8);
+            }
+            Due.text(x, "p");
+            isOfTheState("the votes for " + number, x, y -> y.vote((number + 1) % 10, number, true),
+                    y -> y.rewriteOf(number, 4));
+            isOfTheState("the age of " + number, x, VotedLabels::endWeek, y -> y.rewriteOf(number, 5));
+            isOfTheState("how far is " + number, x, y -> y.label(number % 8, number / 8),
+                    y -> y.rewriteOf(number, 6));
+            isOfTheState("whether it becomes the label: " + number, x, y -> y.setNeeded(1),
+                    y -> y.rewriteOf(number, 7));
+            Due.text(x, "p q r");
+            isOfTheState("that it is there: " + number, x, y -> y.rewrite(number % 10, number % 8, number / 8),
+                    y -> y.rewriteOf(number, 3));
+        }
     }
 
     private static void theTextIsNoState() {

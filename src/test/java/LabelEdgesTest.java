@@ -18,6 +18,7 @@ public final class LabelEdgesTest {
         labelsKeepTheirFirstWords();
         aHigherLimitGivesNothingBack();
         allLabelsOfAllWorksAreCut();
+        aLimitCutsTheWorksThatAreInItsRoomThen();
         labelsInTonguesNotAskedForAreCut();
         worksThatComeToARoomAreCutByItsLimit();
         cutsAreCountedEachTime();
@@ -235,6 +236,26 @@ public final class LabelEdgesTest {
         Due.is("cut so far", x.count(9), 0);
         Due.is("all three of one work", x.bring(7, 1), 3);
         Due.is("cut so far", x.count(9), 3);
+    }
+
+    /** The works that are in the room at first are brought elsewhere, but for the one that is looked at. */
+    private static void aLimitCutsTheWorksThatAreInItsRoomThen() {
+        for (int room = 0; room < 4; room++) {
+            for (int work = 0; work < 8; work++) {
+                VotedLabels x = new VotedLabels();
+                Due.text(x, "a b");
+                for (int other = 0; other < 8; other++) {
+                    x.label(other, 1);
+                    x.bring(other, other == work ? room : (room + 1) % 4);
+                }
+                Due.is("the work " + work + " alone is in the room " + room, x.room(room, 1), 1);
+                Due.is("it is cut", x.setLimit(room, 1), 1);
+                for (int other = 0; other < 8; other++) {
+                    Due.is("words of " + other, x.labelOf(other, 1, 0), other == work ? 1 : 2);
+                    Due.is("cuts of " + other, x.labelOf(other, 1, 4), other == work ? 1 : 0);
+                }
+            }
+        }
     }
 
     private static void labelsInTonguesNotAskedForAreCut() {

@@ -17,6 +17,7 @@ public final class WeekEdgesTest {
         aVisitorHasOneForAWorkAndATongue();
         aRewriteThatIsAlmostTheLabel();
         aVisitorHasOneVoteForAWorkAndATongue();
+        aVoterWhoHandsInARewriteKeepsTheVote();
         nobodyVotesForTheirOwn();
         allNineOthersVote();
         votesOfRewritesThatAreGoneAreGone();
@@ -30,6 +31,7 @@ public final class WeekEdgesTest {
         theMostVotesBeforeTheFewestWords();
         oneForEachWorkAndTongueInAWeek();
         threeWeeksOldAreGone();
+        sixteenFallAwayAtOnce();
         acceptedInTheLastWeekDidNotFallAway();
         aRewriteInThePlaceOfOneIsYoung();
         weeksAreCountedFromZero();
@@ -235,6 +237,21 @@ public final class WeekEdgesTest {
         Due.is("taken back", x.vote(9, 8, false), 0);
         Due.is("votes", x.count(3), 0);
         Due.is("twice", x.vote(9, 8, false), NONE);
+    }
+
+    private static void aVoterWhoHandsInARewriteKeepsTheVote() {
+        VotedLabels x = withText("a");
+        x.rewrite(1, 3, 2);
+        votes(x, 0, 5);
+        Due.is("a rewrite of the voter", x.rewrite(5, 3, 2), 1);
+        Due.is("the vote stays", x.rewriteOf(0, 4), 1);
+        Due.is("another in its place", x.rewrite(5, 3, 2), 2);
+        Due.is("the vote stays", x.rewriteOf(0, 4), 1);
+        Due.is("not for one's own", x.vote(5, 2, true), NOT_POSSIBLE);
+        Due.is("which takes no vote away", x.rewriteOf(0, 4), 1);
+        Due.is("votes of the voter", x.visitor(5, 2), 1);
+        Due.is("they vote for one another", x.vote(1, 2, true), 1);
+        Due.is("votes", x.count(3), 2);
     }
 
     private static void nobodyVotesForTheirOwn() {
@@ -463,6 +480,29 @@ public final class WeekEdgesTest {
         x.endWeek();
         Due.is("one more", x.count(8), 4);
         Due.is("none is there", x.count(1), 0);
+    }
+
+    private static void sixteenFallAwayAtOnce() {
+        VotedLabels x = withText("a");
+        for (int i = 0; i < 16; i++) {
+            x.rewrite(i % 10, i % 8, i / 8);
+            votes(x, i, (i + 1) % 10);
+        }
+        x.endWeek();
+        x.endWeek();
+        Due.is("all are there", x.count(1), 16);
+        Due.is("with their votes", x.count(3), 16);
+        Due.is("none has enough", x.endWeek(), 0);
+        Due.is("none is there", x.count(1), 0);
+        Due.is("no votes either", x.count(3), 0);
+        Due.is("fell away", x.count(8), 16);
+        Due.is("room again", x.rewrite(0, 0, 0), 16);
+        x.undo();
+        Due.is("undone", x.undo(), 2);
+        Due.is("all are there again", x.count(1), 16);
+        Due.is("with their votes", x.count(3), 16);
+        Due.is("none fell away", x.count(8), 0);
+        Due.is("two weeks old", x.rewriteOf(15, 5), 2);
     }
 
     private static void acceptedInTheLastWeekDidNotFallAway() {
