@@ -11,6 +11,7 @@ public final class TellingEdgesTest {
         howFarFromTheSame();
         howFarAtMost();
         howFarIsLessByWordsThatStay();
+        howFarFromALabelOfSixtyCharacters();
         howFarFromALabelThatIsCut();
         howFarIsToldAnew();
         wordsOfEarlierOnesDoNotCount();
@@ -163,6 +164,19 @@ public final class TellingEdgesTest {
         Due.is("the longest way is not the first", far("a b c d", "d a b c"), 2);
         Due.is("words, not letters", far("ab cd", "a bcd"), 4);
         Due.is("beginnings are not alike", far("ab", "abc"), 2);
+    }
+
+    private static void howFarFromALabelOfSixtyCharacters() {
+        String longest = "aaa aab aac aad aae aaf aag aah aai aaj aak aal aam aan aaoo";
+        Due.is("the same", far(longest, longest), 0);
+        Due.is("the first alone stays", far(longest, "aaa aao"), 15);
+        Due.is("the last alone stays", far(longest, "aa aaoo"), 15);
+        Due.is("the last is another", far(longest, longest.substring(0, 59)), 2);
+        Due.is("the last comes first", far(longest, "aaoo " + longest.substring(0, 55)), 2);
+        Due.is("no word stays", far(longest, "q".repeat(60)), 16);
+        Due.is("from one word", far("q".repeat(60), longest), 16);
+        Due.is("one word of sixty letters", far("q".repeat(60), "q".repeat(60)), 0);
+        Due.is("the last letter is another", far("q".repeat(60), "q".repeat(59) + "r"), 2);
     }
 
     private static void howFarFromALabelThatIsCut() {
